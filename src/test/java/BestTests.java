@@ -98,6 +98,9 @@ final class BestTests {
     Check.due("20: no sleeper, ahead of cells", x.way(0, -1), -5);
     x.sleeper(0, 0, 9);
     Check.due("20: that alone", x.way(0, 505), 10);
+    Check.due("20: 0 alone", x.way(0, 0), 10);
+    Check.due("20: 15 alone", x.way(0, 1515), 10);
+    Check.due("20: from 1 to 15", x.way(0, 115), 60);
     Check.due("20: beside", x.way(0, 506), 20);
     Check.due("20: not around the rim", x.way(0, 304), 50);
     Check.due("20: to the far corner", x.way(0, 1500), 70);
@@ -219,5 +222,11 @@ final class BestTests {
     Check.due("22: what", x.joins(1, 2), -7);
     Check.due("22: what below", x.joins(1, -1), -7);
     Check.due("22: all", x.joins(1, 0), 49);
+    for (int s = 2; s < 6; s++) {
+      x.sleeper(0, s == 5 ? 65535 : 0, 0);
+    }
+    Check.due("22: the last one", x.joins(54, 0), 0);
+    Check.due("22: the other last one", x.joins(45, 0), 0);
+    Check.due("22: neither", x.joins(43, 0), 49);
   }
 }

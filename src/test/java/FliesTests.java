@@ -67,6 +67,8 @@ final class FliesTests {
     x.sleeper(0, 0xf000, 10);
     Check.due("30: three of them", x.odds(0, 3, 1, 4, 0), 0);
     Check.due("30: one less", x.odds(0, 4, 1, 3, 0), 1);
+    Check.due("30: one seed", x.odds(0, 1, 1, 3, 0), 1);
+    Check.due("30: one seed, of one", x.odds(0, 1, 1, 3, 1), 1);
     Check.due("30: half", x.odds(0, 8, 1, 4, 0), 1);
     Check.due("30: of two", x.odds(0, 8, 1, 4, 1), 2);
     Check.due("30: six", x.odds(0, 10, 1, 4, 0), 3);

@@ -246,9 +246,13 @@ final class SeenTests {
     Check.due("16: asked only", y.told(0, 3), 0);
     DreamWindows z = one(0, "dulls 1;limit 40;costs 0;");
     Check.due("16: never", z.blind(0), -1);
-    DreamWindows w = one(0, "dulls 0;limit (night=0)+(3<night)-1;costs 0;");
-    w.put(0, 16, 1);
-    w.put(0, 0, 0);
-    Check.due("16: clear at 0 always", w.blind(0), -1);
+    DreamWindows w = one(0, "dulls 0;limit 0-night;costs 0;");
+    Check.due("16: what is dull 0 is always clear", w.blind(0), -1);
+    DreamWindows v = one(0, "dulls 9*(night=3);limit 5;costs 0;");
+    v.sleep();
+    v.sleep();
+    Check.due("16: from this night on", v.blind(0), 2);
+    Check.rule(v, "dulls 1;limit 5-5*(night=3);costs 0;");
+    Check.due("16: by that night's limit", v.blind(0), 1);
   }
 }

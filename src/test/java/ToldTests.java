@@ -151,6 +151,8 @@ final class ToldTests {
     Check.due("25: 5", x.dims(0, 0, 151), 5);
     Check.due("25: another one is wrong", x.dims(0, 0, 10), 0);
     Check.due("25: none", x.dims(0, 0, 11), -1);
+    tell(x, 0, 0xffff);
+    Check.due("25: cell 0 is wrong", x.dims(0, 0, 150), 0);
     tell(x, 0, 0x7ffe);
     Check.due("25: 11 to 99", x.dims(0, 0, 150), 89);
     Check.due("25: 11", x.dims(0, 0, 151), 11);
@@ -172,6 +174,12 @@ final class ToldTests {
     tell(x, 0, 0x8000);
     x.put(0, 15, 7);
     Check.due("25: how dull it is does not matter", x.dims(0, 0, 150), 5 + 80);
+    Check.rule(x, "dulls 10*(night=2);limit 10+20*(night=3)*row;costs 0;");
+    tell(x, 0, 0x8000, 0x8000, 0x8000);
+    Check.due("25: from this night on", x.dims(0, 0, 150), 11);
+    tell(x, 0, 0, 0, 0x8000);
+    Check.due("25: from this night on, dull", x.dims(0, 0, 150), 50);
+    Check.due("25: the least", x.dims(0, 0, 151), 11);
   }
 
   private static void laws() {
@@ -222,6 +230,15 @@ final class ToldTests {
     tell(y, 0, 0, 0, 0);
     Check.due("27: and one more", y.guess(0, 0, 1), 0xffff & ~0x3333);
     Check.due("27: in thought", y.told(0, 1), 1);
+    y.sleep();
+    Check.rule(y, "dulls (night=2)*column*9;limit 10*(1<night);costs 0;");
+    tell(y, 0, 0, 0);
+    Check.due("27: from this night on", y.guess(0, 0, 1), 0);
+    tell(y, 0, 0);
+    Check.due("27: only this night", y.guess(0, 0, 1), 65535);
+    Check.rule(y, "dulls (night=2)*9*column;limit 10*(2<night);costs 0;");
+    tell(y, 0, 0, 0, 0);
+    Check.due("27: so much duller by then", y.guess(0, 0, 1), 0xeeee);
   }
 
   private static void film() {
@@ -251,5 +268,14 @@ final class ToldTests {
     Check.due("28: right of all twenty", x.judge(2, 0), -1);
     Check.due("28: none", x.film(2, 0, 0), 0);
     Check.due("28: no number, but there", x.cell(2, 0, 0), -12);
+    x.sleep();
+    Check.rule(x, "dulls 20*(night=2);limit 10+20*(night=3)*row;costs 0;");
+    x.put(0, 1, 10);
+    x.film(0, 0, 4);
+    int[] later = {0x8003, 0x8003, 0x8000, 0};
+    for (int i = 0; i < 4; i++) {
+      x.copy(0, i, 1, 0, 1);
+      Check.due("28: from this night on " + i, x.guess(1, 0, 0), later[i]);
+    }
   }
 }
