@@ -25,11 +25,13 @@ public final class DreamWindows {
   // A TOKEN that is a sign is its own byte, a word is WORD and its place in WORDS.
   private static final String WORDS = "dulls limit costs or and not column row dull night more behind ";
   private static final int END = 0, NUMBER = 1, WRONG = 2, NEGATE = 3, WORD = 256;
-  private static final int OR = 259, AND = 260, NOT = 261, COLUMN = 262, DULL = 264, NAMES = 6;
+  private static final int OR = WORD + 3, AND = WORD + 4, NOT = WORD + 5;
+  private static final int COLUMN = WORD + 6, DULL = WORD + 8, NAMES = 6;
   private static final int DIGITS = 4, OPEN = 5;
   // With 5 open no more than 31 numbers wait: or, and, <, +, * leave one each, ahead of each ( .
   private static final int WAITING = 40;
 
+  // Dearer than any WAY: a CELL COSTS 200 at most.
   private static final int FAR = 1000000;
 
   private final Kind[] everyKind = {
@@ -1223,18 +1225,26 @@ public final class DreamWindows {
       }
       token = WRONG;
       int word = WORD;
-      int at = start;
+      int first = 0;
       for (int i = 0; i < WORDS.length(); i++) {
-        char letter = WORDS.charAt(i);
-        if (letter == ' ') {
-          token = at == next ? word : token;
+        if (WORDS.charAt(i) == ' ') {
+          if (i - first == next - start && isWordFrom(first)) {
+            token = word;
+          }
           word++;
-          at = start;
-        } else {
-          // Past the end of the tape's word, or at another letter, none of this word's ends fits any more.
-          at = at >= 0 && at < next && bytes[at] == letter ? at + 1 : -1;
+          first = i + 1;
         }
       }
+    }
+
+    /** Whether the letters of the TOKEN stand in WORDS from there on, where as many stand. */
+    private boolean isWordFrom(int first) {
+      for (int i = start; i < next; i++) {
+        if (bytes[i] != WORDS.charAt(first + i - start)) {
+          return false;
+        }
+      }
+      return true;
     }
 
     private void stepNumber() {
