@@ -10,6 +10,7 @@ public final class AllTests {
     ToldTests.all();
     FliesTests.all();
     HostTests.all();
+    Edges.all();
     ModelTests.all();
     System.out.println("the project's tests: " + Check.asked() + " answers, " + Check.wrong() + " not as due");
     if (Check.wrong() != 0) {
