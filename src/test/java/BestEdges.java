@@ -393,6 +393,8 @@ final class BestEdges {
     Check.due("by none", often("dulls 1;limit 0;costs 0;"), -1);
     Check.due("by 50", often("dulls 50;limit 50;costs 0;"), 1);
     Check.due("by 49", often("dulls 50;limit 49;costs 0;"), -1);
+    // What is 1 DULL isn't CLEAR, so only cleaning no more than once would do.
+    Check.due("by none but never", often("dulls 1+(night=0);limit 99*(1<dull);costs 0;"), -1);
   }
 
   @Edge("were all one's CELLS cleaned ahead of NIGHT 0, n, 2 n, .. of 20 NIGHTS from now on,")

@@ -64,7 +64,8 @@ final class FliesEdges {
   }
 
   // 100000 times 48271 is more than 32 bits hold, and 532132706 times 48271 more than 44.
-  @Edge("LOTS: the first is (SEED and 1) times 48271 modulo 2147483647, each further one the last times 48271 modulo 2147483647.")
+  @Edge({"LOTS: the first is (SEED and 1) times 48271 modulo 2147483647,",
+      "each further one the last times 48271 modulo 2147483647."})
   static void promise29LotsDoNotWrap() {
     lastOn(99999, 1, 6, 2);
     lastOn(99999, 2, 6, 23);
@@ -125,9 +126,9 @@ final class FliesEdges {
 
   // ---- 30
 
-  private static void odds(String what, DreamWindows x, int seed, int seeds, int flies, int many, int above, int below) {
-    Check.due(what + ", above", x.odds(seed, seeds, flies, many, 0), above);
-    Check.due(what + ", below", x.odds(seed, seeds, flies, many, 1), below);
+  private static void odds(String what, DreamWindows x, int seed, int seeds, int flies, int many, int... due) {
+    Check.due(what + ", above", x.odds(seed, seeds, flies, many, 0), due[0]);
+    Check.due(what + ", below", x.odds(seed, seeds, flies, many, 1), due[1]);
   }
 
   @Edge("these are many (0 .. 96) or more: part 0 above, 1 below the line, in lowest terms.")
@@ -191,15 +192,11 @@ final class FliesEdges {
   static void promise30NoSuchSeed() {
     DreamWindows x = sleepers(1, 65535, 10);
     for (int seed : Check.outside(0, 99999)) {
-      odds("seed " + seed, x, seed);
+      Check.due("seed " + seed + ", above", x.odds(seed, 1, 0, 0, 0), -4611686018427387904L);
+      Check.due("seed " + seed + ", below", x.odds(seed, 1, 0, 0, 1), -4611686018427387904L);
     }
     odds("0 is one", x, 0, 1, 0, 0, 1, 1);
     odds("99999 is one", x, 99999, 1, 0, 0, 1, 1);
-  }
-
-  private static void odds(String what, DreamWindows x, int seed) {
-    Check.due(what + ", above", x.odds(seed, 1, 0, 0, 0), -4611686018427387904L);
-    Check.due(what + ", below", x.odds(seed, 1, 0, 0, 1), -4611686018427387904L);
   }
 
   @Edge("NO: none such.")
@@ -294,6 +291,21 @@ final class FliesEdges {
     }
   }
 
+  @Edge("All that it keeps is as in THE IMAGE")
+  static void promise32AllSix() {
+    DreamWindows x = sleepers(6, 0xf00f, 5);
+    Check.due("six", x.image(), 6);
+    for (int s = 0; s < 6; s++) {
+      x.put(s, 16, s);
+      x.put(s, 15, 90);
+    }
+    Check.due("six again", x.back(), 6);
+    for (int s = 0; s < 6; s++) {
+      Check.due("PICTURE of " + s, x.told(s, 16), 0xf00f);
+      Check.due("how DULL " + s + " is", x.told(s, 19), 80);
+    }
+  }
+
   @Edge("SLEEPERS that came since are none:")
   static void promise32FullIsNoLongerSo() {
     DreamWindows x = sleepers(5, 1, 1);
@@ -310,11 +322,13 @@ final class FliesEdges {
   @Edge("AN IMAGE keeps how DULL all CELLS are, PICTURES, how many SLEEPERS there are, NIGHT, MINUTES, THE LAW.")
   static void promise32AllThatItKeepsAndNoMore() {
     DreamWindows x = sleepers(2, 0x8001, 5);
-    Check.read(x, "dulls 1;limit 1;costs 1;");
+    Check.rule(x, "dulls 0;limit 1;costs 1;");
+    x.sleep();
+    x.hours(7);
     x.image();
     x.sleep();
     x.hours(999);
-    x.force(1);
+    x.force(0);
     for (int s = 0; s < 2; s++) {
       x.put(s, 0, 99);
       x.put(s, 15, 98);
@@ -324,7 +338,7 @@ final class FliesEdges {
     x.feed(2, 65, 66, 0, 0, 0);
     Check.tell(x, 0, 9, 8);
     Check.due("two", x.back(), 2);
-    int[] due = {2, 0, 60, 3, 0, 2};
+    int[] due = {2, 1, 7, 3, 1, 2};
     for (int what = 0; what <= 5; what++) {
       Check.due("count " + what, x.count(what), due[what]);
     }
@@ -335,7 +349,7 @@ final class FliesEdges {
       Check.due("PICTURE of " + s, x.told(s, 16), 0x8001);
     }
     Check.due("the SHEET stays", Check.bits(x, 0, 2, 1), 8);
-    Check.due("the TEXT stays", x.force(2), 0);
+    Check.due("the TEXT stays", x.force(2), 1);
   }
 
   @Edge("All that it keeps is as in THE IMAGE")

@@ -299,7 +299,9 @@ final class HostEdges {
     DreamWindows x = one();
     Check.tell(x, 0, 1, 2, 3, 4, 5);
     Check.tell(x, 1, 7, 8, 9);
-    int[][] outside = {{-1, 0, 1}, {0, -1, 1}, {5, 0, 1}, {0, 3, 1}, {4, 0, 2}, {0, 2, 2}, {3, 0, 3}, {0, 1, 3}, {0, 0, 4}};
+    int[][] outside = {
+      {-1, 0, 1}, {0, -1, 1}, {5, 0, 1}, {0, 3, 1}, {4, 0, 2}, {0, 2, 2}, {3, 0, 3}, {0, 1, 3}, {0, 0, 4}
+    };
     for (int[] o : outside) {
       Check.due("from " + o[0] + " to " + o[1] + ", " + o[2], x.copy(0, o[0], 1, o[1], o[2]), -12);
     }
@@ -314,8 +316,10 @@ final class HostEdges {
     x.sheet(1, 2, 5);
     int most = Integer.MAX_VALUE;
     int least = Integer.MIN_VALUE;
-    int[][] outside = {{most, 0, 1}, {0, most, 1}, {0, 0, most}, {1, 0, most}, {0, 1, most}, {most, most, most},
-      {least, 0, 1}, {0, least, 1}, {most, 0, 2}, {0, most, 2}, {-1, 0, most}};
+    int[][] outside = {
+      {most, 0, 1}, {0, most, 1}, {0, 0, most}, {1, 0, most}, {0, 1, most}, {most, most, most}, {least, 0, 1},
+      {0, least, 1}, {most, 0, 2}, {0, most, 2}, {-1, 0, most}
+    };
     for (int[] o : outside) {
       Check.due("from " + o[0] + " to " + o[1] + ", " + o[2], x.copy(0, o[0], 1, o[1], o[2]), -12);
     }
@@ -477,8 +481,9 @@ final class HostEdges {
   static void promise36NothingStoodAhead() {
     DreamWindows x = new DreamWindows();
     x.sheet(0, 2, 3);
-    for (int from : new int[] {-1, -2, -3, 1, 2, 3, 4, 40, Integer.MAX_VALUE, Integer.MAX_VALUE - 1, Integer.MAX_VALUE - 2,
-      Integer.MIN_VALUE, -2147483646}) {
+    int most = Integer.MAX_VALUE;
+    int least = Integer.MIN_VALUE;
+    for (int from : new int[] {-1, -2, -3, 1, 2, 3, 4, 40, most, most - 1, most - 2, least, least + 2}) {
       Check.due("from " + from, x.sleepersBy(0, 2, from, 6), -12);
       Check.due("one from " + from, x.sleepersBy(0, 2, from, 1), -12);
     }
@@ -518,7 +523,7 @@ final class HostEdges {
     return x;
   }
 
-  @Edge("What lies at place i: 0 .. 5 SLEEPERS, 6 .. 11 their PICTURES,")
+  @Edge({"What lies at place i: 0 .. 5 SLEEPERS, 6 .. 11 their PICTURES,", "6 a PICTURE: its bits."})
   static void promise37TheFirstAndTheLastOfBoth() {
     DreamWindows x = six();
     Check.due("the first SLEEPER", x.taken(0, 0), 0);

@@ -279,6 +279,18 @@ final class LawEdges {
     }
   }
 
+  @Edge("kindMore: 10 times KIND, and MORE;")
+  static void promise8EachKindWithTheLeastAndTheMostMore() {
+    for (int more = 0; more <= 9; more += 9) {
+      DreamWindows x = new DreamWindows();
+      for (int kind = 0; kind < 6; kind++) {
+        x.sleeper(10 * kind + more, 0, 0);
+        Check.due("KIND " + kind, x.told(kind, 17), kind);
+        Check.due("MORE " + more, x.told(kind, 18), more);
+      }
+    }
+  }
+
   @Edge("the PICTURE, 0 .. 65535;")
   static void promise8PictureFrom0To65535() {
     DreamWindows x = new DreamWindows();

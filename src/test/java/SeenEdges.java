@@ -269,6 +269,18 @@ final class SeenEdges {
     }
   }
 
+  @Edge("A NIGHT: of all SLEEPERS, by numbers,")
+  static void promise13AllSix() {
+    DreamWindows x = new DreamWindows();
+    for (int s = 0; s < 6; s++) {
+      x.sleeper(0, 0, s);
+    }
+    Check.due("NIGHT", x.sleep(), 1);
+    for (int s = 0; s < 6; s++) {
+      Check.due("how DULL " + s + " is", x.told(s, 19), 16 * (s + 3));
+    }
+  }
+
   @Edge("A NIGHT, truly: NIGHT.")
   static void promise13NoSleepers() {
     DreamWindows x = new DreamWindows();
@@ -533,6 +545,16 @@ final class SeenEdges {
     Check.due("now behind none", x.blind(0), 0);
     x.sleep();
     Check.due("again behind 1", x.blind(0), 1);
+  }
+
+  @Edge("Behind how many NIGHTS (0 .. 40) nothing is SEEN for the first time;")
+  static void promise16FromTheNightNow() {
+    DreamWindows x = one(0, 5, "dulls 9*(night=3);limit 5;costs 0;");
+    for (int night = 0; night <= 3; night++) {
+      Check.due("from NIGHT " + night, x.blind(0), 4 - night);
+      x.sleep();
+    }
+    Check.due("it is so now", x.blind(0), 0);
   }
 
   @Edge("What is asked changes nothing, but where it is told.")

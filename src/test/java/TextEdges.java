@@ -34,6 +34,19 @@ final class TextEdges {
   }
 
   @Edge("THE TAPE, which is empty then (by a FAULT, too), is a TEXT: its number;")
+  static void promise5NothingOfALongerTextStaysOnTheTape() {
+    DreamWindows x = new DreamWindows();
+    Check.read(x, "dullsdulls 12345 or row ;;;;;");
+    Check.due("a word", Check.read(x, "dulls"), -105);
+    Check.due("a number behind it", Check.read(x, "dulls    1234"), -113);
+    Check.due("all words", Check.read(x, "a".repeat(160)), -100);
+    Check.due("a word alone", Check.read(x, "dulls not dull"), -114);
+    Check.due("all digits", Check.read(x, "dulls " + "1".repeat(154)), -106);
+    Check.due("a number alone", Check.read(x, "dulls 1234"), -110);
+    Check.due("blanks", Check.read(x, "    "), -104);
+  }
+
+  @Edge("THE TAPE, which is empty then (by a FAULT, too), is a TEXT: its number;")
   static void promise5TheTapeIsEmptyByAFaultToo() {
     DreamWindows x = new DreamWindows();
     Check.due("a fault", Check.read(x, "dulls 3 ; ? ; costs dull ;"), -110);
@@ -104,7 +117,7 @@ final class TextEdges {
     }
   }
 
-  @Edge("also of a byte that begins none,")
+  @Edge({"also of a byte that begins none,", "SIGNS ( ) ; + - * < = ;"})
   static void promise5EachByteWhereASignMayStand() {
     for (int b = 0; b <= 255; b++) {
       boolean goesOn = b == ' ' || b == '\n' || b == ';' || "+-*<=".indexOf(b) >= 0;
@@ -118,7 +131,7 @@ final class TextEdges {
     faultAt(PLAIN + " \n #" + (char) 0);
   }
 
-  @Edge("WORDS (as many letters a .. z as stand there)")
+  @Edge({"TOKENS, each as long as can be:", "WORDS (as many letters a .. z as stand there)"})
   static void promise5WordsAreAsLongAsCanBe() {
     faultAt("#dullss 3;");
     faultAt("dulls #nightnight;");
@@ -127,6 +140,9 @@ final class TextEdges {
     faultAt("#dull 3;");
     faultAt("dulls #mor;");
     faultAt("dulls #a;");
+    faultAt("dulls #rowz;");
+    faultAt("dulls #arow;");
+    faultAt("dulls #z");
     well("dulls3;limit-row;costs(more);");
   }
 
@@ -139,7 +155,7 @@ final class TextEdges {
     faultAt("#Dulls 3;");
   }
 
-  @Edge("NUMBERS (as many digits as stand there; more than 4 are too long)")
+  @Edge({"NUMBERS (as many digits as stand there; more than 4 are too long)", "a NUMBER that is too long,"})
   static void promise5FourDigitsAtMost() {
     well("dulls 9999" + REST);
     well("dulls 0000" + REST);
@@ -179,11 +195,11 @@ final class TextEdges {
 
   // ---- 5: what can't stand there
 
-  @Edge({"FAULT: the place of the first byte of the first TOKEN that can't stand there", "(the text's size, if it ends too early)"})
+  @Edge({"FAULT: the place of the first byte of the first TOKEN that can't stand there",
+      "(the text's size, if it ends too early)"})
   static void promise5EndsTooEarly() {
-    String[] tokens = {"dulls", "3", "or", "(", "1", ")", ";", "limit", "-", "5", ";", "costs", "not", "dull", "<", "7"};
     StringBuilder text = new StringBuilder();
-    for (String token : tokens) {
+    for (String token : "dulls 3 or ( 1 ) ; limit - 5 ; costs not dull < 7".split(" ")) {
       fault(text.toString(), text.length());
       text.append(token);
       fault(text.toString(), text.length());
@@ -386,6 +402,28 @@ final class TextEdges {
     so("not 0", 1);
     so("(8192*8)*(8192*8) or 0", 0);
     so("(8192*8)*(8192*4) and 1", 1);
+  }
+
+  @Edge("of or, and, not, <, = 1 or 0 (what is not 0 is true).")
+  static void promise7ExactlyOneOrExactly0() {
+    String[] pairs = {
+      "0 0", "0 1", "1 0", "1 1", "0 (0-1)", "(0-1) 0", "(0-1) (0-1)", "7 1", "1 7", "7 7", "0 7", "7 0"
+    };
+    int[] or = {0, 1, 1, 1, 1, 1, 1, 1, 1, 1, 1, 1};
+    int[] and = {0, 0, 0, 1, 0, 0, 1, 1, 1, 1, 0, 0};
+    int[] less = {0, 1, 0, 0, 0, 1, 0, 0, 1, 0, 1, 0};
+    int[] like = {1, 0, 0, 1, 0, 0, 1, 0, 0, 1, 0, 0};
+    for (int i = 0; i < pairs.length; i++) {
+      so("20+(" + pairs[i].replace(" ", " or ") + ")", 20 + or[i]);
+      so("20+(" + pairs[i].replace(" ", " and ") + ")", 20 + and[i]);
+      so("20+(" + pairs[i].replace(" ", "<") + ")", 20 + less[i]);
+      so("20+(" + pairs[i].replace(" ", "=") + ")", 20 + like[i]);
+    }
+    so("20+(not 0)", 21);
+    so("20+(not 1)", 20);
+    so("20+(not 7)", 20);
+    so("20+(not -1)", 20);
+    so("20+(not not 7)", 21);
   }
 
   @Edge("of or, and, not, <, = 1 or 0 (what is not 0 is true).")

@@ -120,6 +120,26 @@ final class ToldEdges {
     Check.due("one too many", x.judge(0, 0), 2);
   }
 
+  /** By this text one is duller in NIGHT 2 alone, and SEEN, too dull for it before, in NIGHT 4. */
+  private static DreamWindows byNights() {
+    DreamWindows x = Check.by("dulls 9*(night=2);limit 5+20*(night=4);costs 0;");
+    x.sleeper(0, 0x8001, 5);
+    x.sleep();
+    return x;
+  }
+
+  @Edge("A SHEET tells what is SEEN behind 0, 1, .. NIGHTS (20 at most):")
+  static void promise23FromTheNightNow() {
+    DreamWindows x = byNights();
+    Check.tell(x, 0, 0x8001, 0x8001, 0, 0x8001, 0);
+    Check.due("from NIGHT 1", x.judge(0, 0), -1);
+    x.cell(0, 2, 0x8001);
+    Check.due("duller in NIGHT 2", x.judge(0, 0), 2);
+    x.cell(0, 2, 0);
+    x.cell(0, 3, 0);
+    Check.due("SEEN in NIGHT 4", x.judge(0, 0), 3);
+  }
+
   @Edge("the first number that is otherwise;")
   static void promise23BitsThatNoCellHas() {
     DreamWindows x = one();
@@ -298,6 +318,32 @@ final class ToldEdges {
     dims("only 0", x, 15, 1, 0);
   }
 
+  @Edge("How DULL (0 .. 99) it could be now so that that would be -1: how many (what 0),")
+  static void promise25FromTheNightNow() {
+    DreamWindows x = byNights();
+    Check.tell(x, 0, 0x8001, 0x8001, 0);
+    dims("0 to 5", x, 0, 6, 0);
+    Check.tell(x, 0, 0x8001, 0x8001, 0, 0x8001, 0);
+    dims("0 to 5, SEEN in NIGHT 4", x, 15, 6, 0);
+    x.put(0, 0, 99);
+    Check.tell(x, 0, 0, 0, 0, 0x8000, 0);
+    dims("6 to 16", x, 15, 11, 6);
+  }
+
+  @Edge("the least (1; -1: none).")
+  static void promise25NoneIfAnotherOneIsOtherwise() {
+    DreamWindows x = one();
+    for (int cell = 0; cell < 16; cell++) {
+      // All are CLEAR; of each but this one the first number tells so.
+      x.put(0, 16, 65535);
+      Check.tell(x, 0, 65535 & ~(1 << cell));
+      for (int asked = 0; asked < 16; asked += 5) {
+        dims("cell " + asked + ", of " + cell + " told otherwise", x, asked, asked == cell ? 89 : 0,
+            asked == cell ? 11 : -1);
+      }
+    }
+  }
+
   @Edge("the least (1; -1: none).")
   static void promise25None() {
     DreamWindows x = one();
@@ -464,6 +510,23 @@ final class ToldEdges {
   }
 
   @Edge("those of CELLS that are CLEAR behind none of as many NIGHTS as are told (0, 1, ..) (1).")
+  static void promise27FromTheNightNow() {
+    DreamWindows x = byNights();
+    for (int c = 1; c < 16; c++) {
+      x.put(0, c, c + 2);
+    }
+    x.sheet(0, 2, 1);
+    // DULL 5, 3, 4, 5, 6, .. 17; 9 more behind 2 NIGHTS, limits 5, 5, 5, 25 and 5.
+    Check.due("of 1", x.guess(0, 0, 1), 0xfff0);
+    x.sheet(0, 2, 3);
+    Check.due("of 3", x.guess(0, 0, 1), 0xfff0);
+    x.sheet(0, 2, 4);
+    Check.due("of 4", x.guess(0, 0, 1), 0x8000);
+    x.sheet(0, 2, 5);
+    Check.due("of 5", x.guess(0, 0, 1), 0x8000);
+  }
+
+  @Edge("those of CELLS that are CLEAR behind none of as many NIGHTS as are told (0, 1, ..) (1).")
   static void promise27ClearBehindNoneThoughNothingIsBehindIt() {
     DreamWindows x = one();
     Check.tell(x, 0, 0);
@@ -557,6 +620,16 @@ final class ToldEdges {
       Check.due("with bit 15", x.guess(1, 0, 0), 65535);
       Check.due("no sign", x.judge(1, 0), -1);
       Check.due("two", x.cell(0, 2, 0), -12);
+    }
+  }
+
+  @Edge("A SHEET truly becomes what is SEEN behind 0, 1, .., n less 1 NIGHTS (n 0 .. 20; ints): n.")
+  static void promise28FromTheNightNow() {
+    DreamWindows x = byNights();
+    Check.due("5", x.film(0, 0, 5), 5);
+    int[] due = {0x8001, 0x8001, 0, 0x8001, 0};
+    for (int i = 0; i < 5; i++) {
+      Check.due("behind " + i, Check.bits(x, 0, 2, i), due[i]);
     }
   }
 
