@@ -9,7 +9,6 @@ final class BestTests {
     way();
     often();
     joins();
-    joinRefusals();
   }
 
   private static void threeOf(DreamWindows x, int s, int cells, int many, int cost) {
@@ -206,27 +205,5 @@ final class BestTests {
     x.sleeper(0, 65535, 11);
     Check.due("22: nothing is clear", x.joins(2, 0), 49);
     Check.due("22: then the first", x.joins(2, 1), 0);
-  }
-
-  private static void joinRefusals() {
-    DreamWindows x = new DreamWindows();
-    x.sleeper(0, 0, 0);
-    x.sleeper(0, 0, 0);
-    Check.due("22: one and the same", x.joins(11, 0), -5);
-    Check.due("22: ahead of what", x.joins(0, 2), -5);
-    Check.due("22: no such other", x.joins(2, 0), -5);
-    Check.due("22: no such one", x.joins(20, 0), -5);
-    Check.due("22: none such", x.joins(100, 0), -5);
-    Check.due("22: below", x.joins(-1, 0), -5);
-    Check.due("22: far below", x.joins(-10, 0), -5);
-    Check.due("22: what", x.joins(1, 2), -7);
-    Check.due("22: what below", x.joins(1, -1), -7);
-    Check.due("22: all", x.joins(1, 0), 49);
-    for (int s = 2; s < 6; s++) {
-      x.sleeper(0, s == 5 ? 65535 : 0, 0);
-    }
-    Check.due("22: the last one", x.joins(54, 0), 0);
-    Check.due("22: the other last one", x.joins(45, 0), 0);
-    Check.due("22: neither", x.joins(43, 0), 49);
   }
 }

@@ -4,7 +4,6 @@ final class FliesTests {
 
   static void all() {
     drawn();
-    refusals();
     odds();
     image();
     imageRest();
@@ -39,22 +38,6 @@ final class FliesTests {
     x.put(1, 16, 0);
     Check.due("29: the last seed", x.drawn(99999, 1), 0);
     Check.due("29: the last seed, no flies", x.drawn(99999, 0), 1);
-  }
-
-  private static void refusals() {
-    DreamWindows x = new DreamWindows();
-    Check.due("29: seed", x.drawn(100000, 0), -2);
-    Check.due("29: seed below", x.drawn(-1, 0), -2);
-    Check.due("29: flies", x.drawn(0, 100), -2);
-    Check.due("29: flies below", x.drawn(0, -1), -2);
-    int[][] bad = {
-      {-1, 1, 0, 0, 0}, {100000, 1, 0, 0, 0}, {0, 0, 0, 0, 0}, {0, 41, 0, 0, 0}, {0, -1, 0, 0, 0}, {0, 1, -1, 0, 0},
-      {0, 1, 100, 0, 0}, {0, 1, 0, -1, 0}, {0, 1, 0, 97, 0}, {0, 1, 0, 0, -1}, {0, 1, 0, 0, 2}
-    };
-    for (int[] b : bad) {
-      Check.due("30: none such", x.odds(b[0], b[1], b[2], b[3], b[4]), DreamWindows.NO);
-    }
-    Check.due("30: the last ones", x.odds(99999, 40, 99, 96, 1), 1);
   }
 
   private static void odds() {

@@ -141,6 +141,10 @@ final class HostEdges {
     DreamWindows x = one();
     Check.sheet(x, 0, 0, 127, 256, 257, 0x12345678, Integer.MIN_VALUE, 0x7fffff00);
     numbers("bytes", x, 0, 0, 127, 0, 1, 0x78, 0, 0);
+    for (int v : new int[] {128, 200, 255, 0x1ff, -1, -128}) {
+      x.cell(0, 0, v);
+      Check.due("lowest 8 bits of " + v, Check.bits(x, 0, 0, 0) & 255, v & 255);
+    }
     x.put(0, 16, 0x7f);
     Check.sheet(x, 0, 0, 0x100 | 0x7f);
     Check.due("as a byte it is right", x.judge(0, 0), -1);
@@ -151,6 +155,10 @@ final class HostEdges {
     DreamWindows x = one();
     Check.sheet(x, 0, 1, 128, 255, 256, 32767, 65536, 65537, 0x12345678, Integer.MIN_VALUE);
     numbers("shorts", x, 0, 1, 128, 255, 256, 32767, 0, 1, 0x5678, 0);
+    for (int v : new int[] {32768, 40000, 65535, 0x1ffff, -1, -32768}) {
+      x.cell(0, 0, v);
+      Check.due("lowest 16 bits of " + v, Check.bits(x, 0, 1, 0), v & 65535);
+    }
     x.put(0, 16, 0x7fff);
     Check.sheet(x, 0, 1, 0x10000 | 0x7fff);
     Check.due("as a short it is right", x.judge(0, 0), -1);
@@ -317,12 +325,27 @@ final class HostEdges {
     int most = Integer.MAX_VALUE;
     int least = Integer.MIN_VALUE;
     int[][] outside = {
-      {most, 0, 1}, {0, most, 1}, {0, 0, most}, {1, 0, most}, {0, 1, most}, {most, most, most}, {least, 0, 1},
-      {0, least, 1}, {most, 0, 2}, {0, most, 2}, {-1, 0, most}
+      {most, 0, 1}, {0, most, 1}, {0, 0, most}, {1, 0, most}, {0, 1, most}, {1, 1, most}, {5, 5, most},
+      {most, most, most}, {least, 0, 1}, {0, least, 1}, {most, 0, 2}, {0, most, 2}, {most, most, 2}, {-1, -1, most},
+      {-1, 0, most}
     };
     for (int[] o : outside) {
       Check.due("from " + o[0] + " to " + o[1] + ", " + o[2], x.copy(0, o[0], 1, o[1], o[2]), -12);
     }
+  }
+
+  @Edge("-12 (n below 0, too).")
+  static void promise35PlacesOutsideThoughNoneCome() {
+    DreamWindows x = one();
+    x.sheet(0, 2, 5);
+    x.sheet(1, 2, 3);
+    for (int i : Check.outside(0, 5)) {
+      Check.due("none from " + i, x.copy(0, i, 1, 0, 0), -12);
+    }
+    for (int j : Check.outside(0, 3)) {
+      Check.due("none to " + j, x.copy(0, 0, 1, j, 0), -12);
+    }
+    Check.due("none behind the last ones", x.copy(0, 5, 1, 3, 0), 0);
   }
 
   @Edge("-12 (n below 0, too).")

@@ -6,17 +6,8 @@ final class HostTests {
     sheet();
     cell();
     copy();
-    copyEdges();
     sleepersBy();
-    sleepersByEdges();
     taken();
-  }
-
-  /** Number i of a sheet, asked by its bits; a sleeper 0 must be there. */
-  private static int bits(DreamWindows x, int s, int sort, int i) {
-    x.sheet(3, sort, 1);
-    x.copy(s, i, 3, 0, 1);
-    return x.guess(3, 0, 0);
   }
 
   private static void sheet() {
@@ -59,8 +50,8 @@ final class HostTests {
       Check.due("34: outside below", x.cell(sort, -1, 0), -12);
       Check.due("34: 1", x.cell(sort, 2, 0x12345678), 1);
       int[] due = {0x78, 0x5678, 0x5678};
-      Check.due("34: lowest bits", bits(x, sort, sort, 2), due[sort]);
-      Check.due("34: only that", bits(x, sort, sort, 1), 0);
+      Check.due("34: lowest bits", Check.bits(x, sort, sort, 2), due[sort]);
+      Check.due("34: only that", Check.bits(x, sort, sort, 1), 0);
     }
   }
 
@@ -84,41 +75,17 @@ final class HostTests {
     Check.due("35: two", x.copy(0, 3, 1, 1, 2), 2);
     int[] due = {0, 13, 14};
     for (int i = 0; i < 3; i++) {
-      Check.due("35: number " + i, bits(x, 1, 2, i), due[i]);
+      Check.due("35: number " + i, Check.bits(x, 1, 2, i), due[i]);
     }
     Check.due("35: its own, up", x.copy(0, 0, 0, 1, 4), 4);
     int[] up = {10, 10, 11, 12, 13};
     for (int i = 0; i < 5; i++) {
-      Check.due("35: up " + i, bits(x, 0, 2, i), up[i]);
+      Check.due("35: up " + i, Check.bits(x, 0, 2, i), up[i]);
     }
     Check.due("35: its own, down", x.copy(0, 2, 0, 0, 3), 3);
     int[] down = {11, 12, 13, 12, 13};
     for (int i = 0; i < 5; i++) {
-      Check.due("35: down " + i, bits(x, 0, 2, i), down[i]);
-    }
-  }
-
-  private static void copyEdges() {
-    DreamWindows x = new DreamWindows();
-    x.sheet(0, 0, 5);
-    x.sheet(1, 0, 3);
-    int far = Integer.MAX_VALUE;
-    int[][] outside = {
-      {0, 0, -1}, {-1, 0, 1}, {0, -1, 1}, {0, 0, 4}, {3, 0, 3}, {0, 1, 3}, {6, 0, 0}, {0, 4, 0}, {far, 0, 1}, {1, 0, far},
-      {0, far, 1}, {-1, 0, 0}, {0, -1, 0}
-    };
-    for (int[] o : outside) {
-      Check.due("35: outside " + o[0] + " " + o[1] + " " + o[2], x.copy(0, o[0], 1, o[1], o[2]), -12);
-    }
-    Check.due("35: none", x.copy(0, 0, 1, 0, 0), 0);
-    Check.due("35: none at the ends", x.copy(0, 5, 1, 3, 0), 0);
-    Check.due("35: all there is room for", x.copy(0, 2, 1, 0, 3), 3);
-  }
-
-  private static void row(DreamWindows x, int s, int sort, int... numbers) {
-    x.sheet(s, sort, numbers.length);
-    for (int i = 0; i < numbers.length; i++) {
-      x.cell(s, i, numbers[i]);
+      Check.due("35: down " + i, Check.bits(x, 0, 2, i), down[i]);
     }
   }
 
@@ -131,7 +98,7 @@ final class HostTests {
     Check.due("36: n", x.sleepersBy(0, 0, 0, 7), -2);
     Check.due("36: n below", x.sleepersBy(0, 0, 0, -1), -2);
     Check.due("36: missing", x.sleepersBy(0, 0, 0, 1), -11);
-    row(x, 0, 2, 5, 47, 300, 9, 60, 1, 1, 23, 65535, 99);
+    Check.sheet(x, 0, 2, 5, 47, 300, 9, 60, 1, 1, 23, 65535, 99);
     Check.due("36: another sort, ahead of outside", x.sleepersBy(0, 1, -1, 1), -13);
     Check.due("36: two of three", x.sleepersBy(0, 2, 1, 3), 2);
     Check.due("36: kind", x.told(0, 17), 4);
@@ -142,28 +109,11 @@ final class HostTests {
     Check.due("36: the other one's kind", x.told(1, 17), 2);
     Check.due("36: none", x.sleepersBy(0, 2, 1, 0), 0);
     Check.due("36: none at all", x.sleepersBy(0, 2, 99, 0), 0);
-    row(x, 1, 0, 1, 127, 3, 1, 128, 3);
+    Check.sheet(x, 1, 0, 1, 127, 3, 1, 128, 3);
     Check.due("36: bytes have signs", x.sleepersBy(1, 0, 0, 2), 1);
-    row(x, 2, 1, 1, 32767, 3, 1, 32768, 3);
+    Check.sheet(x, 2, 1, 1, 32767, 3, 1, 32768, 3);
     Check.due("36: shorts have signs", x.sleepersBy(2, 1, 0, 2), 1);
     Check.due("36: four", x.count(0), 4);
-  }
-
-  private static void sleepersByEdges() {
-    DreamWindows x = new DreamWindows();
-    row(x, 0, 2, 0, 1, 2, 10, 3, 4, 20, 5);
-    Check.due("36: outside", x.sleepersBy(0, 2, 0, 3), -12);
-    Check.due("36: what stood ahead came", x.count(0), 2);
-    Check.due("36: below", x.sleepersBy(0, 2, -1, 2), -12);
-    Check.due("36: three below", x.sleepersBy(0, 2, -3, 2), -12);
-    Check.due("36: at the end", x.sleepersBy(0, 2, 8, 1), -12);
-    Check.due("36: one short", x.sleepersBy(0, 2, 6, 1), -12);
-    Check.due("36: far", x.sleepersBy(0, 2, Integer.MAX_VALUE, 6), -12);
-    Check.due("36: far below", x.sleepersBy(0, 2, Integer.MIN_VALUE, 6), -12);
-    Check.due("36: none came", x.count(0), 2);
-    row(x, 1, 0, new int[18]);
-    Check.due("36: as many as there is room for", x.sleepersBy(1, 0, 0, 6), 4);
-    Check.due("36: full", x.sleepersBy(1, 0, 0, 6), 0);
   }
 
   private static void taken() {

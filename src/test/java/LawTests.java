@@ -6,11 +6,9 @@ final class LawTests {
 
   static void all() {
     fresh();
-    hours();
     feed();
     text();
     faults();
-    open();
     force();
     asks();
     values();
@@ -38,15 +36,6 @@ final class LawTests {
     for (int what = 0; what < 6; what++) {
       Check.due("2: count then " + what, x.count(what), then[what]);
     }
-  }
-
-  private static void hours() {
-    DreamWindows x = new DreamWindows();
-    Check.due("3: 60 at first", x.hours(0), 60);
-    Check.due("3: 0", x.hours(999), 0);
-    Check.due("3: too many", x.hours(1000), -2);
-    Check.due("3: too few", x.hours(-1), -2);
-    Check.due("3: as they were", x.count(2), 999);
   }
 
   private static void feed() {
@@ -169,29 +158,6 @@ final class LawTests {
     fault("dulls (1 or 2) 3 ;", 15);
     fault("dulls(not 1)+(2 or 3)*-(4<5);limit not not 1<2 and 3=4 or 5;costs----1;", -1);
     fault("dulls ?????", 6);
-  }
-
-  private static void open() {
-    String rest = ";limit 1;costs 1;";
-    fault("dulls (((((1)))))" + rest, -1);
-    fault("dulls ((((((1))))))" + rest, 11);
-    fault("dulls -----1" + rest, -1);
-    fault("dulls ------1" + rest, 11);
-    fault("dulls not not not not not 1" + rest, -1);
-    fault("dulls not not not not not not 1" + rest, 26);
-    fault("dulls not(-(-1))" + rest, -1);
-    fault("dulls not(-(--1))" + rest, 13);
-    fault("dulls not((-(not 1)))" + rest, 13);
-    fault("dulls not(-(-(1)))" + rest, 13);
-    fault("dulls (((((1-2)))))-(((((3)))))" + rest, -1);
-    fault("dulls (((((1)-2)-3)-4)-5)-(-(-(-(-6))))" + rest, 31);
-    fault("dulls -----1 + -----2 - -----3 * -----4" + rest, -1);
-    fault("dulls not not not not not 1 and not not not not not 2" + rest, -1);
-    fault("dulls not not not not (1 < 2) + (3)" + rest, -1);
-    fault("dulls not not not not not (1)" + rest, 26);
-    fault("dulls not not not not not 1 < 2" + rest, -1);
-    fault("dulls not not not not not 1 < -2" + rest, 30);
-    fault("dulls 1" + ";limit (((((2)))));costs (((((3)))));", -1);
   }
 
   private static void force() {

@@ -33,6 +33,19 @@ final class TextEdges {
     Check.due("nothing is on it", x.text(), -100);
   }
 
+  @Edge("is a TEXT: its number;")
+  static void promise5ATextIsNotTheLawYet() {
+    DreamWindows x = new DreamWindows();
+    x.sleeper(0, 0, 0);
+    Check.due("its number", Check.read(x, "dulls 7;limit 8;costs 9;"), 1);
+    Check.due("THE LAW", x.count(4), 0);
+    Check.due("still dulls", x.asks(0, 0, 0), 3);
+    x.force(1);
+    Check.due("the next one's number", Check.read(x, PLAIN), 2);
+    Check.due("THE LAW stays", x.count(4), 1);
+    Check.due("now dulls", x.asks(0, 0, 0), 7);
+  }
+
   @Edge("THE TAPE, which is empty then (by a FAULT, too), is a TEXT: its number;")
   static void promise5NothingOfALongerTextStaysOnTheTape() {
     DreamWindows x = new DreamWindows();
