@@ -251,14 +251,23 @@ final class FliesEdges {
     DreamWindows x = sleepers(1, 1, 1);
     x.image();
     x.hours(7);
+    Check.rule(x, "dulls 0;limit 0;costs 0;");
+    x.sleep();
     x.put(0, 0, 50);
+    x.put(0, 16, 3);
     x.sleeper(0, 2, 2);
     x.image();
     x.hours(8);
+    x.force(0);
+    x.sleep();
     x.put(0, 0, 60);
+    x.put(0, 16, 4);
     Check.due("of two", x.back(), 2);
+    Check.due("NIGHT", x.count(1), 1);
     Check.due("MINUTES", x.count(2), 7);
+    Check.due("THE LAW", x.count(4), 1);
     Check.due("DULL", x.told(0, 0), 50);
+    Check.due("PICTURE", x.told(0, 16), 3);
     Check.due("again of two", x.back(), 2);
   }
 

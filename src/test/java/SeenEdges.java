@@ -456,6 +456,9 @@ final class SeenEdges {
     x.put(0, 0, 0);
     Check.due("SEEN of 10 behind 2", x.run(0, 2, 0), 1);
     Check.due("SEEN of 9 behind 1", x.run(0, 1, 0), 0);
+    x.sleeper(0, 0, 0);
+    Check.rule(x, "dulls night;limit 0;costs 0;");
+    Check.due("duller by NIGHTS 1, 2 and 3", x.run(1, 3, 1), 16 * 6);
   }
 
   @Edge({"n NIGHTS (0 .. 40), in thought:", "What is asked changes nothing, but where it is told."})

@@ -131,20 +131,6 @@ final class SeenTests {
     z.sleep();
     z.sleep();
     Check.due("13: as dull as it is then", z.told(0, 9), 7);
-    lastNight();
-  }
-
-  /** Farther than the 512 calls that are promised go, but only so NIGHT comes to 999. */
-  private static void lastNight() {
-    DreamWindows x = new DreamWindows();
-    for (int i = 1; i <= 999; i++) {
-      x.sleep();
-    }
-    x.sleeper(0, 1, 5);
-    Check.due("13: 999", x.count(1), 999);
-    Check.due("13: no more", x.sleep(), -3);
-    Check.due("13: nothing duller", x.told(0, 0), 5);
-    Check.due("15: in thought it passes", x.run(0, 3, 1), 14 * 16);
   }
 
   private static void dull(int kindMore, int nights, int corner, int elsewhere) {

@@ -203,6 +203,17 @@ final class TextEdges {
     faultAt("dulls 3;#limits 1;");
     faultAt("#e");
     faultAt("dulls #columns" + REST);
+    faultAt("dulls 1-#light 2" + REST);
+    faultAt("dulls 1+#light 2" + REST);
+    faultAt("dulls 1*#light 2" + REST);
+    faultAt("dulls 1<#light 2" + REST);
+    faultAt("dulls -#light 2" + REST);
+    faultAt("dulls not #light 2" + REST);
+    faultAt("dulls (#light 2)" + REST);
+    faultAt("dulls 1 or #light 2" + REST);
+    faultAt("dulls (1)#light" + REST);
+    faultAt("dulls 1 #light" + REST);
+    faultAt(PLAIN + "#light");
     well("dulls column+row+dull+night+more+behind" + REST);
   }
 
@@ -229,6 +240,13 @@ final class TextEdges {
     faultAt("dulls 1;limit 1;#limit 1;");
     faultAt("dulls 1;limit 1;costs 1;#dulls 1;");
     faultAt("dulls 1;limit 1;costs 1;#;");
+    faultAt("dulls 1;limit 1;costs 1;#5");
+    faultAt("dulls 1;limit 1;costs 1;#row");
+    faultAt("dulls 1;limit 1;costs 1;#-");
+    faultAt("dulls 1;limit 1;costs 1;#(");
+    faultAt("dulls 1;limit 1;costs 1;#)");
+    faultAt("dulls 1;limit 1;costs 1;#or 1;");
+    faultAt("dulls 1;limit 1;costs 1;#12345");
     faultAt("dulls 1;#;limit 1;costs 1;");
     faultAt("dulls #;limit 1;costs 1;");
     faultAt("#;");
