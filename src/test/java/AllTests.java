@@ -4,6 +4,7 @@ public final class AllTests {
 
   public static void main(String[] args) throws Exception {
     FaceTests.all();
+    ReadmeTests.all();
     LawTests.all();
     SeenTests.all();
     BestTests.all();

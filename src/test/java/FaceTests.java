@@ -58,6 +58,7 @@ final class FaceTests {
     Check.due("its parameters", made[0].getParameterCount(), 0);
     Check.due("final", Modifier.isFinal(DreamWindows.class.getModifiers()) ? 1 : 0, 1);
     ownNames();
+    sizes();
   }
 
   private static void ownNames() {
@@ -67,7 +68,25 @@ final class FaceTests {
     for (Method m : DreamWindows.class.getDeclaredMethods()) {
       boolean clashes = Modifier.isPrivate(m.getModifiers()) && (" " + FACE).contains(" " + m.getName() + "(");
       Check.due("private " + m.getName() + " bears a public name", clashes ? 1 : 0, 0);
-      Check.due("parameters of " + m.getName(), Math.max(7, m.getParameterCount()), 7);
+    }
+  }
+
+  /** Rules 5 and 11: of all classes in the file. */
+  private static void sizes() {
+    List<Class<?>> classes = new ArrayList<>(List.of(DreamWindows.class.getDeclaredClasses()));
+    classes.add(DreamWindows.class);
+    Check.due("classes in the file, 12 at most", Math.max(12, classes.size()), 12);
+    for (Class<?> one : classes) {
+      int own = 0;
+      for (Field f : one.getDeclaredFields()) {
+        int is = f.getModifiers();
+        own += Modifier.isStatic(is) ? 0 : 1;
+        Check.due("static and not final: " + f, Modifier.isStatic(is) && !Modifier.isFinal(is) ? 1 : 0, 0);
+      }
+      Check.due("fields of " + one + ", 20 at most", Math.max(20, own), 20);
+      for (Method m : one.getDeclaredMethods()) {
+        Check.due("parameters of " + m + ", 7 at most", Math.max(7, m.getParameterCount()), 7);
+      }
     }
   }
 
